@@ -4,6 +4,8 @@ import java.util.NoSuchElementException;
 final class Check {
     private static int checks = 0;
     private static int wrong = 0;
+    /** A broken class would otherwise fill the log of a long walk. */
+    private static final int MOST_TOLD = 50;
 
     private Check() {
     }
@@ -16,8 +18,7 @@ final class Check {
     static void same(String what, long got, long due) {
         checks++;
         if (got != due) {
-            wrong++;
-            System.out.println(what + ": answered " + got + ", due is " + due);
+            tell(what + ": answered " + got + ", due is " + due);
         }
     }
 
@@ -50,8 +51,7 @@ final class Check {
             got = e.getClass();
         }
         if (got != due) {
-            wrong++;
-            System.out.println(what + ": threw " + got + ", due is " + due);
+            tell(what + ": threw " + got + ", due is " + due);
         }
     }
 
@@ -65,6 +65,13 @@ final class Check {
     static void ticks(String what, BudgetKernel kernel, int... due) {
         for (int i = 0; i < due.length; i++) {
             same(what + ": tick " + i, kernel.tick(), due[i]);
+        }
+    }
+
+    private static void tell(String fault) {
+        wrong++;
+        if (wrong <= MOST_TOLD) {
+            System.out.println(fault);
         }
     }
 
