@@ -75,7 +75,6 @@ public final class SourceTest {
         Check.badState("another's priority", () -> kernel.source(3, 0, 1, 1, 1, 1, 4));
         Check.same("still the first budget", kernel.about(2, 6), 7);
         kernel.source(3, 0, 1, 1, 1, 1, 5);
-        Check.isTrue("a base task may have a source's priority", kernel.base(0, 2000, 1, 4) == false);
         BudgetKernel other = new BudgetKernel();
         other.source(0, 0, 1, 500, 1, 500, 4);
         Check.isTrue("priorities of tasks are their own", other.base(0, 10, 1, 4));
