@@ -18,6 +18,7 @@ public final class PieceEdgeTest {
         pieceOfALaterTimeIsNew();
         pieceOfAnEarlierTimeIsNew();
         sameTimeAsOneThatIsNotTheLastIsNew();
+        lastOfThoseThatAreThere();
         sixteenthIsNew();
         sixteenAlreadyAndALaterTime();
         sixteenAlreadyAndAnEarlierTime();
@@ -210,9 +211,9 @@ public final class PieceEdgeTest {
         units("20 behind 22", kernel, 0, 2, 20, 1);
     }
 
-    /** At 15, with five events to handle: two units are left since 0, one since 10, two since 15. */
-    private static BudgetKernel unitsOfThreeTimes() {
-        BudgetKernel kernel = withTwoSources(1, 5, 10);
+    /** At 15, with five events to handle: one unit is left since 10, two since 15, and all others since 0. */
+    private static BudgetKernel unitsOfThreeTimes(int budget) {
+        BudgetKernel kernel = withTwoSources(1, budget, 10);
         kernel.event(0);
         Check.ticks("at 0", kernel, 20);
         kernel.ticks(4);
@@ -220,15 +221,15 @@ public final class PieceEdgeTest {
             kernel.event(0);
         }
         Check.ticks("at 5 and 6: two left since 0, busy since 5", kernel, 20, 20);
-        units("10 and 15", kernel, 2, 2, 10, 1);
+        units("10 and 15", kernel, budget - 3, 2, 10, 1);
         holdUp(kernel, 8);
-        units("all are left", kernel, 5, 0, -1, 0);
+        units("all are left", kernel, budget, 0, -1, 0);
         return kernel;
     }
 
     /** "If the piece that came last is of the same time": not one before it. */
     private static void sameTimeAsOneThatIsNotTheLastIsNew() {
-        BudgetKernel kernel = unitsOfThreeTimes();
+        BudgetKernel kernel = unitsOfThreeTimes(5);
         Check.ticks("at 15: left since 0, waited a period", kernel, 20);
         units("25", kernel, 4, 1, 25, 1);
         Check.ticks("at 16: left since 0 too", kernel, 20);
@@ -239,6 +240,23 @@ public final class PieceEdgeTest {
         units("a new one of 25 behind them", kernel, 1, 4, 20, 1);
         Check.ticks("at 19: left since 15 too", kernel, 20);
         units("it grows, and 20 is given back", kernel, 1, 3, 25, 1);
+    }
+
+    /** "If the piece that came last is of the same time ..., it grows by 1": one that was given back is none any more. */
+    private static void lastOfThoseThatAreThere() {
+        BudgetKernel kernel = unitsOfThreeTimes(4);
+        Check.ticks("at 15: left since 0, waited a period", kernel, 20);
+        units("25", kernel, 3, 1, 25, 1);
+        Check.ticks("at 16: left since 10", kernel, 20);
+        units("20 behind 25", kernel, 2, 2, 20, 1);
+        holdUp(kernel, 3);
+        units("at 20 the one behind is given back", kernel, 3, 1, 25, 1);
+        Check.ticks("at 20: left since 15", kernel, 20);
+        units("25 came last of those that are there, and grows", kernel, 2, 1, 25, 2);
+        Check.ticks("at 21: left since 15 too", kernel, 20);
+        units("once more", kernel, 1, 1, 25, 3);
+        Check.ticks("at 22: left since 20", kernel, 20);
+        units("30 is new", kernel, 0, 2, 25, 3);
     }
 
     /** Events one by one, each handled at once: each has a piece of its own. */
@@ -357,7 +375,7 @@ public final class PieceEdgeTest {
 
     /** "all pieces whose time it is, or was, are given back". */
     private static void allOfOneTimeAreGivenBack() {
-        BudgetKernel kernel = unitsOfThreeTimes();
+        BudgetKernel kernel = unitsOfThreeTimes(5);
         kernel.ticks(5);
         units("25, 26 and 25", kernel, 1, 3, 25, 1);
         kernel.ticks(4);
@@ -380,7 +398,7 @@ public final class PieceEdgeTest {
 
     /** "8 the time at which the first one of those with the least time is given back (-1 without one), 9 how much". */
     private static void firstOfThoseWithTheLeastTime() {
-        BudgetKernel kernel = unitsOfThreeTimes();
+        BudgetKernel kernel = unitsOfThreeTimes(5);
         kernel.ticks(4);
         units("25, 26, 20 and 25: the third", kernel, 1, 4, 20, 1);
         kernel.tick();
